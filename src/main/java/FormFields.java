@@ -849,10 +849,10 @@ public final class FormFields {
             int changed = 0;
             for (int i = 0; i < count && waiting != 0; i++) {
                 int next = leastReady(waiting, count);
-                if (next != NONE) {
+                if (next >= 0 && next < count) {
                     Field master = fields.get(next);
                     waiting &= ~(1L << next);
-                    changed += takeResult(master, result(master, fields, count));
+                    changed += takeResult(master, result(master.formula, needs[next], fields));
                 }
             }
             return changed;
@@ -934,13 +934,12 @@ public final class FormFields {
             return 1;
         }
 
-        private long result(Field master, ArrayList<Field> fields, int count) {
-            Formula formula = master.formula;
+        private static long result(Formula formula, long needed, ArrayList<Field> fields) {
             if (formula.op == CONSTANT) {
                 return formula.constant;
             }
             if (formula.op == GROUP_SUM) {
-                return sum(needs[master.number], fields, count);
+                return sum(needed, fields);
             }
             if (formula.left == null || formula.right == null) {
                 return NO_AMOUNT;
@@ -953,9 +952,9 @@ public final class FormFields {
             return Amounts.ofTwo(formula.op, a, b);
         }
 
-        private static long sum(long masters, ArrayList<Field> fields, int count) {
+        private static long sum(long masters, ArrayList<Field> fields) {
             long total = 0;
-            for (int i = 0; i < count; i++) {
+            for (int i = 0; i < fields.size(); i++) {
                 if ((masters >> i & 1) == 1) {
                     long amount = fields.get(i).amount();
                     if (amount == NO_AMOUNT) {

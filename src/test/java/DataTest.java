@@ -4,6 +4,7 @@ public final class DataTest {
         written();
         bytes();
         readBack();
+        firstField();
         badLines();
         badValues();
         nothingOfABadReading();
@@ -74,6 +75,13 @@ public final class DataTest {
         Check.due("twice", Check.shown(x, 1));
     }
 
+    private static void firstField() {
+        FormFields x = new FormFields();
+        x.field(-1, Check.TEXT, 999);
+        Check.due(1, Check.read(x, "999=first\n"));
+        Check.due("999=first\n", Check.data(x));
+    }
+
     private static void badLines() {
         String[] bad = {"\n", "5\n", "=\n", "=1\n", "1=\n", "0=\n", "1.0\n", "01.0=\n", "1.00=\n", "1.0.0=\n",
             ".1.0=\n", "1.=\n", "1,0=\n", " 2=1\n", "2 =1\n", "2=1", "2=", "2", "5=1\r\n", "02=1\n", "-2=1\n",
@@ -89,8 +97,8 @@ public final class DataTest {
 
     private static void badValues() {
         String[] bad = {"2=\n", "2=2\n", "2=/\n", "2=01\n", "2=11\n", "3=1\n", "3=00\n", "3=07\n", "3=010\n",
-            "3=-7\n", "3=7 \n", "3=77\n", "4=0\n", "4=099999\n", "4=999990\n", "4=9999\n", "4=4295067295\n",
-            "4=99999999999\n", "5=a\n", "5=1,0\n", "5= 1\n", "5=123456789012345\n", "5==1\n",
+            "3=-7\n", "3=7 \n", "3=77\n", "3=:\n", "3=1/\n", "3=/\n", "4=0\n", "4=099999\n", "4=999990\n",
+            "4=9999\n", "4=4295067295\n", "4=99999999999\n", "5=a\n", "5=1,0\n", "5= 1\n", "5=123456789012345\n", "5==1\n",
             "1.0=\u001f\n", "1.0=\u007f\n", "1.0=\u00ff\n", "1.0=1234567890123456789012345678901\n"};
         for (String line : bad) {
             FormFields x = form();

@@ -16,6 +16,7 @@ public final class FormulasTest {
         failures();
         toldToFail();
         mastersCount();
+        fortyFormulas();
         Check.end();
     }
 
@@ -157,6 +158,8 @@ public final class FormulasTest {
         result("31622.777", 2, "31622.776", "999999993.568");
         result("31622.777", 2, "31622.777", null);
         result("500000000", 2, "2", null);
+        result("536870912", 2, "34359738.368", null);
+        result("-34359738.368", 2, "536870912", null);
         result("499999999.999", 2, "2", "999999999.998");
         result("999999999.999", 3, "0.999", null);
         result("999999999.999", 3, "1", "999999999.999");
@@ -407,5 +410,25 @@ public final class FormulasTest {
         Check.due("1.500", Check.shown(x, 1));
         x.formula(2, 0, 1, 1);
         Check.due(-1, x.calculate());
+    }
+
+    private static void fortyFormulas() {
+        FormFields x = new FormFields();
+        x.field(-1, Check.GROUP, 0);
+        for (int i = 1; i < 40; i++) {
+            x.field(0, Check.NUMBER, i);
+        }
+        for (int i = 1; i < 39; i++) {
+            x.formula(i, 0, i + 1, i + 1);
+        }
+        x.formula(39, 7, 1000, 0);
+        Check.due(38, x.calculate());
+        Check.due(1, x.failed(-1));
+        Check.due(9, x.failed(0));
+        Check.due("536870912.000", Check.shown(x, 10));
+        Check.due("", Check.shown(x, 9));
+        Check.due("0.000", Check.shown(x, 8));
+        x.formula(39, 6, 0, 0);
+        Check.due(-2, x.calculate());
     }
 }

@@ -5,6 +5,8 @@ public final class MarksTest {
         sides();
         cells();
         nothingFits();
+        oneCell();
+        allSigns();
         marksStay();
         wrongMarks();
         flattenToPage();
@@ -113,6 +115,31 @@ public final class MarksTest {
         x.set(0, 6, 0);
         x.appearance(0);
         marked(x, 1, 97, -5, -3, 6);
+    }
+
+    private static void oneCell() {
+        FormFields x = new FormFields();
+        x.field(-1, Check.TEXT, 1);
+        x.set(0, 1, 1);
+        x.set(0, 5, 47);
+        Check.due(48, x.size(0));
+        x.value(0, 97);
+        Check.due(2, x.appearance(0));
+        marked(x, 1, 97, 11, 56, 48);
+    }
+
+    private static void allSigns() {
+        FormFields x = new FormFields();
+        x.field(-1, Check.TEXT, 1);
+        for (int i = 0; i < 30; i++) {
+            x.value(0, 65 + i);
+        }
+        Check.due(31, x.appearance(0));
+        marked(x, 30, 94, 696, 56, 48);
+        x.set(0, 1, 30);
+        x.set(0, 5, 100000);
+        Check.due(31, x.appearance(0));
+        marked(x, 30, 94, 98308, 32, 96);
     }
 
     private static void marksStay() {
