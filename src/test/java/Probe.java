@@ -1,0 +1,186 @@
+import java.util.function.Function;
+import java.util.function.Supplier;
+
+/** All that can be learnt of an object: two objects that answer alike here have had the same changes. */
+final class Probe {
+    private interface Part {
+        void look(Probe probe, int fields);
+    }
+
+    private static final Part[] PARTS = {
+        (probe, fields) -> probe.rows(), Probe::looks, Probe::settings, Probe::formulas, Probe::values,
+        Probe::options, Probe::bounds, (probe, fields) -> probe.reading(),
+    };
+    private static final String[] AMOUNTS = {"-1.501", "-1.5", "2", "2.001"};
+
+    private final StringBuilder told = new StringBuilder();
+    private final FormFields x;
+
+    private Probe(FormFields x) {
+        this.x = x;
+    }
+
+    /**
+     * The call throws this, and then the object answers as one that never had the call. Looking
+     * changes an object, too, so each part of the looking gets two new ones.
+     */
+    static void refused(String want, Supplier<FormFields> made, Function<FormFields, Object> call) {
+        for (Part part : PARTS) {
+            FormFields touched = made.get();
+            FormFields untouched = made.get();
+            Check.refused(want, () -> {
+                call.apply(touched);
+                return 0;
+            });
+            Check.due(seen(part, untouched), seen(part, touched));
+        }
+    }
+
+    /** As refused(), for several calls that throw the same. */
+    @SafeVarargs
+    static void allRefused(String want, Supplier<FormFields> made, Function<FormFields, Object>... calls) {
+        for (Function<FormFields, Object> call : calls) {
+            refused(want, made, call);
+        }
+    }
+
+    /** Two makings that are to lead to the same object. */
+    static void alike(Supplier<FormFields> one, Supplier<FormFields> other) {
+        for (Part part : PARTS) {
+            Check.due(seen(part, one.get()), seen(part, other.get()));
+        }
+    }
+
+    private static String seen(Part part, FormFields x) {
+        Probe probe = new Probe(x);
+        int count = 0;
+        while (probe.isField(count)) {
+            count++;
+        }
+        probe.told.append(count).append(" fields");
+        part.look(probe, count);
+        return probe.told.toString();
+    }
+
+    private boolean isField(int field) {
+        return Check.outcome(() -> x.shown(field, 0)).startsWith("answers");
+    }
+
+    /** Whether it answered. */
+    private boolean tell(Check.Call call) {
+        String outcome = Check.outcome(call);
+        boolean answered = outcome.startsWith("answers ");
+        told.append(' ').append(answered ? outcome.substring(8) : outcome);
+        return answered;
+    }
+
+    /** What calls that made or worked out something have left: the data, the failed, marks, the page. */
+    private void rows() {
+        for (int i = 0; tellOne("\nat ", i, x::at); i++) {
+        }
+        for (int i = -1; tellOne("\nfailed ", i, x::failed); i++) {
+        }
+        for (int i = 0; tellOne("\nmark ", i, one -> x.mark(one, 0)); i++) {
+            int one = i;
+            for (int what = 1; what <= 3; what++) {
+                int part = what;
+                tell(() -> x.mark(one, part));
+            }
+        }
+        for (int i = 0; tellOne("\npage ", i, one -> x.page(one, 0)); i++) {
+            int one = i;
+            for (int what = 1; what <= 4; what++) {
+                int part = what;
+                tell(() -> x.page(one, part));
+            }
+        }
+        told.append("\nnext field");
+        tell(() -> x.field(-1, Check.TEXT, 998));
+    }
+
+    private boolean tellOne(String name, int i, Function<Integer, Integer> call) {
+        told.append(name).append(i);
+        return tell(() -> call.apply(i));
+    }
+
+    private void looks(int count) {
+        for (int i = 0; i < count; i++) {
+            int one = i;
+            told.append("\nlook ").append(i).append(' ').append(Check.shown(x, i));
+            tell(() -> x.size(one));
+            tell(() -> x.validate(one));
+        }
+    }
+
+    /** Setting each to the least it may be answers what it was. */
+    private void settings(int count) {
+        for (int i = 0; i < count; i++) {
+            int one = i;
+            told.append("\nsettings ").append(i);
+            tell(() -> x.lock(one, false));
+            tell(() -> x.fails(one, false));
+            for (int what = 0; what < 8; what++) {
+                int setting = what;
+                tell(() -> x.set(one, setting, 0));
+            }
+        }
+    }
+
+    private void formulas(int count) {
+        told.append("\ncalculated");
+        tell(x::calculate);
+        for (int i = -1; tellOne("\nfailed ", i, x::failed); i++) {
+        }
+        for (int i = 0; i < count; i++) {
+            int one = i;
+            told.append("\nformula ").append(i).append(' ').append(Check.shown(x, i));
+            tell(() -> x.formula(one, -1, 0, 0));
+        }
+    }
+
+    private void values(int count) {
+        for (int i = 0; i < count; i++) {
+            int one = i;
+            told.append("\nvalue ").append(i);
+            tell(() -> x.value(one, '1'));
+            tell(() -> x.value(one, -1));
+            tell(() -> x.flatten(one));
+        }
+        told.append("\ndata ").append(Check.data(x));
+    }
+
+    private void options(int count) {
+        for (int i = 0; i < count && i < 20; i++) {
+            int one = i;
+            told.append("\noptions ").append(i);
+            for (int option = 0; option < 13 && tellOne(" ", option, c -> x.value(one, c)); option++) {
+                told.append(' ').append(Check.shown(x, i));
+            }
+            tell(() -> x.option(one, 4321));
+        }
+    }
+
+    /** The amounts on both sides of the bounds that the forms of these tests have. */
+    private void bounds(int count) {
+        for (int i = 0; i < count && i < 10; i++) {
+            int one = i;
+            told.append("\nbounds ").append(i);
+            tell(() -> x.lock(one, false));
+            for (String amount : AMOUNTS) {
+                if (tell(() -> x.value(one, -1))) {
+                    for (char c : amount.toCharArray()) {
+                        tell(() -> x.value(one, c));
+                    }
+                }
+                tell(() -> x.validate(one));
+            }
+        }
+    }
+
+    private void reading() {
+        told.append("\nto read");
+        tell(() -> x.read(10));
+        tell(() -> x.read(-1));
+        told.append("\ndata ").append(Check.data(x));
+    }
+}
