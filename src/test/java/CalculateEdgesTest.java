@@ -118,6 +118,10 @@ public final class CalculateEdgesTest {
         comesTo("0", 2, FAR, "0");
         comesTo("0", 2, "", "-" + FAR);
         comesTo("999999.999", 2, FAR, "0.001");
+        comesTo("-999999.999", 2, FAR, "-0.001");
+        comesTo("-999999.999", 2, "-0.001", FAR);
+        fails(2, "536870912", "34359738.368");
+        fails(2, "-34359738.368", "536870912");
     }
 
     private static void quotientNotBeyond() {

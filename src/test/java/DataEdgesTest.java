@@ -182,10 +182,10 @@ public final class DataEdgesTest {
         Check.due(2999, waiting(2998).read(10));
         Check.due(3000, waiting(2999).read(10));
         for (int c : new int[] {0, 10, 255}) {
-            Check.refused(Check.UNSUPPORTED, () -> waiting(3000).read(c));
+            Probe.refused(Check.UNSUPPORTED, () -> waiting(3000), x -> x.read(c));
         }
-        Check.refused(Check.ARGUMENT, () -> waiting(3000).read(256));
-        Check.refused(Check.ARGUMENT, () -> waiting(3000).read(-2));
+        Probe.refused(Check.ARGUMENT, () -> waiting(3000), x -> x.read(256));
+        Probe.refused(Check.ARGUMENT, () -> waiting(3000), x -> x.read(-2));
         FormFields x = waiting(3000);
         Check.refused(Check.UNSUPPORTED, () -> x.read('1'));
         Check.due(750, x.read(-1));
@@ -399,6 +399,9 @@ public final class DataEdgesTest {
             reads(1, twelve, "1=12\n");
             reads(-1, twelve, "1=13\n");
             reads(-1, twelve, "1=0\n");
+            reads(-1, twelve, "1=1/\n");
+            reads(-1, twelve, "1=0:\n");
+            reads(-1, twelve, "1=:\n");
         }
     }
 

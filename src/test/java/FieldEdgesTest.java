@@ -148,6 +148,16 @@ public final class FieldEdgesTest {
                 Check.due(1, Forms.one(kind).field(-1, other, 0));
             }
         }
+        for (int name = 3; name <= 10; name++) {
+            int there = name;
+            int other = name == 3 ? Check.TEXT : Check.BOX;
+            if (name != 6) {
+                Probe.refused(Check.STATE, Forms::rich, x -> x.field(-1, other, there));
+            }
+        }
+        Probe.refused(Check.STATE, Forms::rich, x -> x.field(Forms.GROUP, Check.BOX, 2));
+        Probe.refused(Check.STATE, Forms::rich, x -> x.field(Forms.GROUP, Check.BOX, 6));
+        Check.due(Forms.COUNT, Forms.rich().field(-1, Check.BOX, 6));
     }
 
     private static void oneKindThroughGroupsOfOneFullName() {

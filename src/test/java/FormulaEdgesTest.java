@@ -21,6 +21,7 @@ public final class FormulaEdgesTest {
         opMinusOneToSeven();
         formulasOfNumbersAlone();
         ofNumbersAndBoxes();
+        refusedFormulaLeavesTheOld();
         ofAGroup();
         fieldsThatAreNotNeeded();
         formulaThatItHad();
@@ -225,6 +226,19 @@ public final class FormulaEdgesTest {
                     Probe.allRefused(Check.ARGUMENT, Forms::kinds,
                             x -> x.formula(Check.NUMBER, one, field, Check.BOX),
                             x -> x.formula(Check.NUMBER, one, Check.BOX, field));
+                }
+            }
+        }
+    }
+
+    /** A refused formula leaves the one that is there. */
+    private static void refusedFormulaLeavesTheOld() {
+        for (int op = 0; op <= 6; op++) {
+            int one = op;
+            for (int field : new int[] {op == 6 ? Forms.BOX : Forms.GROUP, Forms.CELLED, Forms.RADIO, Forms.CHOICE}) {
+                Probe.refused(Check.ARGUMENT, Forms::rich, x -> x.formula(Forms.RESULT, one, field, Forms.BOX));
+                if (op < 6) {
+                    Probe.refused(Check.ARGUMENT, Forms::rich, x -> x.formula(Forms.RESULT, one, Forms.BOX, field));
                 }
             }
         }

@@ -4,12 +4,12 @@ import java.util.function.Supplier;
 /** All that can be learnt of an object: two objects that answer alike here have had the same changes. */
 final class Probe {
     private interface Part {
-        void look(Probe probe, int fields);
+        void look(Probe probe);
     }
 
     private static final Part[] PARTS = {
-        (probe, fields) -> probe.rows(), Probe::looks, Probe::settings, Probe::formulas, Probe::values,
-        Probe::options, Probe::bounds, (probe, fields) -> probe.reading(),
+        Probe::rows, Probe::reading, Probe::looks, Probe::settings, Probe::formulas, Probe::values, Probe::options,
+        Probe::bounds,
     };
     private static final String[] AMOUNTS = {"-1.501", "-1.5", "2", "2.001"};
 
@@ -53,13 +53,18 @@ final class Probe {
 
     private static String seen(Part part, FormFields x) {
         Probe probe = new Probe(x);
+        part.look(probe);
+        return probe.told.toString();
+    }
+
+    /** Not for rows() and reading(): the call behind the last field is refused, and could change them. */
+    private int fields() {
         int count = 0;
-        while (probe.isField(count)) {
+        while (isField(count)) {
             count++;
         }
-        probe.told.append(count).append(" fields");
-        part.look(probe, count);
-        return probe.told.toString();
+        told.append(count).append(" fields");
+        return count;
     }
 
     private boolean isField(int field) {
@@ -76,10 +81,8 @@ final class Probe {
 
     /** What calls that made or worked out something have left: the data, the failed, marks, the page. */
     private void rows() {
-        for (int i = 0; tellOne("\nat ", i, x::at); i++) {
-        }
-        for (int i = -1; tellOne("\nfailed ", i, x::failed); i++) {
-        }
+        tellAll("\nat ", 0, x::at);
+        tellAll("\nfailed ", -1, x::failed);
         for (int i = 0; tellOne("\nmark ", i, one -> x.mark(one, 0)); i++) {
             int one = i;
             for (int what = 1; what <= 3; what++) {
@@ -98,12 +101,20 @@ final class Probe {
         tell(() -> x.field(-1, Check.TEXT, 998));
     }
 
+    private void tellAll(String name, int from, Function<Integer, Integer> call) {
+        int i = from;
+        while (tellOne(name, i, call)) {
+            i++;
+        }
+    }
+
     private boolean tellOne(String name, int i, Function<Integer, Integer> call) {
         told.append(name).append(i);
         return tell(() -> call.apply(i));
     }
 
-    private void looks(int count) {
+    private void looks() {
+        int count = fields();
         for (int i = 0; i < count; i++) {
             int one = i;
             told.append("\nlook ").append(i).append(' ').append(Check.shown(x, i));
@@ -113,7 +124,8 @@ final class Probe {
     }
 
     /** Setting each to the least it may be answers what it was. */
-    private void settings(int count) {
+    private void settings() {
+        int count = fields();
         for (int i = 0; i < count; i++) {
             int one = i;
             told.append("\nsettings ").append(i);
@@ -126,11 +138,11 @@ final class Probe {
         }
     }
 
-    private void formulas(int count) {
+    private void formulas() {
+        int count = fields();
         told.append("\ncalculated");
         tell(x::calculate);
-        for (int i = -1; tellOne("\nfailed ", i, x::failed); i++) {
-        }
+        tellAll("\nfailed ", -1, x::failed);
         for (int i = 0; i < count; i++) {
             int one = i;
             told.append("\nformula ").append(i).append(' ').append(Check.shown(x, i));
@@ -138,7 +150,8 @@ final class Probe {
         }
     }
 
-    private void values(int count) {
+    private void values() {
+        int count = fields();
         for (int i = 0; i < count; i++) {
             int one = i;
             told.append("\nvalue ").append(i);
@@ -149,7 +162,8 @@ final class Probe {
         told.append("\ndata ").append(Check.data(x));
     }
 
-    private void options(int count) {
+    private void options() {
+        int count = fields();
         for (int i = 0; i < count && i < 20; i++) {
             int one = i;
             told.append("\noptions ").append(i);
@@ -161,7 +175,8 @@ final class Probe {
     }
 
     /** The amounts on both sides of the bounds that the forms of these tests have. */
-    private void bounds(int count) {
+    private void bounds() {
+        int count = fields();
         for (int i = 0; i < count && i < 10; i++) {
             int one = i;
             told.append("\nbounds ").append(i);

@@ -283,6 +283,13 @@ public final class ShownEdgesTest {
             x.set(0, 1, 0);
             Check.due(signs == 0 ? 96 : signs == 5 ? 6 : -6, x.size(0));
         }
+        FormFields x = text(0, 48, 120);
+        x.set(0, 1, 1);
+        Check.due(96, x.size(0));
+        x.set(0, 5, 47);
+        Check.due(48, x.size(0));
+        x.set(0, 5, 2);
+        Check.due(-6, x.size(0));
     }
 
     // "The SIZE of a field is the greatest that FITS, else 6"; "below 0 when it does not FIT"
