@@ -275,10 +275,11 @@ public final class CalculateEdgesTest {
         x.field(35, Check.NUMBER, 4);
         Check.type(x, 37, "1.5");
         Check.type(x, 39, "2");
+        x.set(38, 3, 1);
         for (int group = 0; group < 37; group++) {
             x.formula(38, 6, group, 0);
             Check.due(group == 0 || group == 36 ? 1 : 0, x.calculate());
-            Check.due(group == 36 ? "1.500" : "3.500", Check.shown(x, 38));
+            Check.due(group == 36 ? "1.5" : "3.5", Check.shown(x, 38));
         }
     }
 
@@ -457,7 +458,7 @@ public final class CalculateEdgesTest {
 
     // "i = -1: how many. IndexOutOfBoundsException."
     private static void failedFromTo() {
-        for (int count = 0; count <= 40; count += 10) {
+        for (int count : new int[] {0, 1, 2, 30}) {
             int failing = count;
             Supplier<FormFields> made = () -> {
                 FormFields x = new FormFields();
@@ -478,6 +479,24 @@ public final class CalculateEdgesTest {
                 Probe.refused(Check.INDEX, made, y -> y.failed(i));
             }
         }
+        FormFields forty = new FormFields();
+        for (int i = 0; i < 40; i++) {
+            forty.field(-1, Check.NUMBER, i);
+        }
+        for (int i = 0; i < 39; i++) {
+            forty.formula(i, 3, 39, 39);
+        }
+        forty.formula(39, 7, 0, 0);
+        Check.due(1, forty.calculate());
+        Check.due(39, forty.failed(-1));
+        Check.due(38, forty.failed(38));
+        Check.refused(Check.INDEX, () -> forty.failed(39));
+        forty.fails(39, true);
+        Check.due(0, forty.calculate());
+        Check.due(40, forty.failed(-1));
+        Check.due(39, forty.failed(0));
+        Check.due(38, forty.failed(39));
+        Check.refused(Check.INDEX, () -> forty.failed(40));
         Probe.refused(Check.INDEX, Forms::rich, x -> x.failed(1));
         Probe.refused(Check.INDEX, Forms::rich, x -> x.failed(-2));
     }

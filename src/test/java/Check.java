@@ -84,8 +84,10 @@ final class Check {
 
     static String shown(FormFields x, int field) {
         StringBuilder signs = new StringBuilder();
-        for (int i = 0; x.shown(field, i) != -1; i++) {
-            signs.append((char) x.shown(field, i));
+        int sign = x.shown(field, 0);
+        for (int i = 1; sign != -1; i++) {
+            signs.append((char) sign);
+            sign = x.shown(field, i);
         }
         return signs.toString();
     }

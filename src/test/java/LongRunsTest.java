@@ -209,8 +209,8 @@ public final class LongRunsTest {
 
     private void readSome() {
         if (typed.isEmpty() && number(4) != 0) {
-            model.write();
-            typed = Check.data(form);
+            both("write()", form::write, model::write);
+            typed = model.latestData();
         }
         String[] lines = typed.split("\n");
         StringBuilder bytes = new StringBuilder();

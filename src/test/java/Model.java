@@ -407,6 +407,11 @@ final class Model {
         return data.charAt(i);
     }
 
+    /** At once, without the calls of at() that the form would have to have, too. */
+    String latestData() {
+        return data;
+    }
+
     int read(int c) {
         argument(c >= -1 && c <= 255);
         if (c >= 0) {
